@@ -49,7 +49,8 @@ public final class AckBook {
         flow = new Flow();
     }
 
-    public int send(int space, int size, boolean eliciting, boolean counted) {
+    public int send(int space, int size, boolean eliciting, boolean counted)
+            throws IllegalArgumentException, IllegalStateException {
         Space its = known(space);
         if (size < 1 || size > MOST_SIZE) {
             throw new IllegalArgumentException("size is not 1 .. 1200");
@@ -68,7 +69,7 @@ public final class AckBook {
         return packet.number;
     }
 
-    public int span(long low, long high) {
+    public int span(long low, long high) throws IllegalArgumentException, IllegalStateException {
         if (low < 0 || high < low) {
             throw new IllegalArgumentException("not 0 <= low <= high");
         }
@@ -81,7 +82,7 @@ public final class AckBook {
         return claim.add(low, high);
     }
 
-    public int acknowledge(int space, int delay) {
+    public int acknowledge(int space, int delay) throws IllegalArgumentException, IllegalStateException {
         // Closed ahead of every test, because none is put together after a throw either.
         claim.close();
         Space its = known(space);
@@ -112,7 +113,7 @@ public final class AckBook {
         return 0;
     }
 
-    public void discard(int space) {
+    public void discard(int space) throws IllegalArgumentException, IllegalStateException {
         Space its = known(space);
         refuseDiscarded(its);
         its.isDiscarded = true;
@@ -129,12 +130,12 @@ public final class AckBook {
         isAnxious = is;
     }
 
-    public int next(int space, boolean lost) {
+    public int next(int space, boolean lost) throws IllegalArgumentException {
         Sent sent = known(space).sent;
         return lost ? sent.lost.removeFirst() : sent.acknowledged.removeFirst();
     }
 
-    public int state(int space, int number) {
+    public int state(int space, int number) throws IllegalArgumentException {
         Space its = known(space);
         Packet packet = its.sent.packet(number);
         if (packet == null) {
@@ -143,7 +144,8 @@ public final class AckBook {
         return its.isDiscarded ? DISCARDED : packet.fate;
     }
 
-    public boolean came(int space, long number, boolean eliciting) {
+    public boolean came(int space, long number, boolean eliciting)
+            throws IllegalArgumentException, IllegalStateException {
         Space its = known(space);
         if (number < 0 || number > MOST_NUMBER) {
             throw new IllegalArgumentException("no such number");
@@ -152,12 +154,12 @@ public final class AckBook {
         return its.arrivals.enter(number, eliciting, time);
     }
 
-    public boolean due(int space) {
+    public boolean due(int space) throws IllegalArgumentException {
         Space its = known(space);
         return its.index == PATIENT_SPACE ? its.arrivals.isPressing(time) : its.arrivals.pending > 0;
     }
 
-    public int written(int space) {
+    public int written(int space) throws IllegalArgumentException, IllegalStateException {
         Space its = known(space);
         refuseDiscarded(its);
         if (its.arrivals.count == 0) {
@@ -166,7 +168,8 @@ public final class AckBook {
         return its.arrivals.settle(time);
     }
 
-    public long range(int space, int k, boolean greatest) {
+    public long range(int space, int k, boolean greatest)
+            throws IllegalArgumentException, NoSuchElementException {
         Arrivals arrivals = known(space).arrivals;
         if (k < 0 || k >= arrivals.count) {
             throw new NoSuchElementException("no such range");
@@ -174,7 +177,7 @@ public final class AckBook {
         return greatest ? arrivals.highs[k] : arrivals.lows[k];
     }
 
-    public int look(int what) {
+    public int look(int what) throws NoSuchElementException {
         switch (what) {
             case 0: return time;
             case 1: return flow.inFlight;
@@ -192,7 +195,7 @@ public final class AckBook {
         }
     }
 
-    public long space(int space, int what) {
+    public long space(int space, int what) throws IllegalArgumentException, NoSuchElementException {
         Space its = known(space);
         switch (what) {
             case 0: return its.sent.count();
@@ -481,9 +484,8 @@ public final class AckBook {
         }
 
         private boolean hasAcknowledged(int above, int below) {
-            for (int k = above + 1; k < below; k++) {
-                Packet packet = packet(k);
-                if (packet != null && packet.fate == ACKNOWLEDGED) {
+            for (int k = above + 1; k < below && k < packets.size(); k++) {
+                if (packets.get(k).fate == ACKNOWLEDGED) {
                     return true;
                 }
             }

@@ -12,7 +12,7 @@ public final class DiscardTest {
     private static AckBook full(int space) {
         AckBook book = new AckBook();
         book.confirm();
-        Check.sends(book, space, 100, 6);
+        Check.sends(book, space, 100, 7);
         Check.acknowledged(book, space, 0, 4, 4, 1, 1);
         for (int k = 0; k < 66; k++) {
             book.came(space, 2 * k, true);
@@ -23,21 +23,21 @@ public final class DiscardTest {
     private static void whatIsForgotten() {
         for (int space = 0; space < 3; space++) {
             AckBook book = full(space);
-            Check.same("in flight before", book.look(1), 300);
+            Check.same("in flight before", book.look(1), 400);
             Check.same("LOSS TIME before", book.space(space, 2), 1);
             Check.same("FLOOR before", book.space(space, 10), 3);
             Check.same("due before", book.due(space), true);
             book.discard(space);
             int patience = space == 2 ? 26 : 1;
-            Check.spaces("discarded", book, space, 6, -1, -1, -1, 0, 0, 0, 0, patience, 1, 0);
+            Check.spaces("discarded", book, space, 7, -1, -1, -1, 0, 0, 0, 0, patience, 1, 0);
             Check.same("in flight", book.look(1), 0);
             Check.same("next lost", book.next(space, true), -1);
             Check.same("next acknowledged", book.next(space, false), -1);
             Check.same("due", book.due(space), false);
-            for (int number = 0; number < 6; number++) {
+            for (int number = 0; number < 7; number++) {
                 Check.same("state", book.state(space, number), 3);
             }
-            Check.same("state of one not sent", book.state(space, 6), -1);
+            Check.same("state of one not sent", book.state(space, 7), -1);
             int s = space;
             Check.missing("range", () -> book.range(s, 0, true));
             Check.quiet(book, 5);

@@ -55,6 +55,14 @@ public final class LossTest {
         Check.same("LOSS TIME after it", other.space(0, 2), -1);
         Check.same("BACKOFF", other.look(9), 0);
         Check.quiet(other, 300);
+
+        AckBook third = new AckBook();
+        Check.sends(third, 0, 100, 2);
+        Check.quiet(third, 3);
+        Check.acknowledged(third, 0, 0, 0, 0);
+        Check.same("LIMIT", third.look(10), 3);
+        Check.same("above GREATEST ACKNOWLEDGED nothing is lost", third.state(0, 1), 0);
+        Check.same("nor does it give LOSS TIME", third.space(0, 2), -1);
     }
 
     private static void limitOfTheLook() {

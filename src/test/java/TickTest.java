@@ -70,6 +70,17 @@ public final class TickTest {
         other.send(0, 100, true, true);
         Check.quiet(other, 298);
         Check.same("space 1 is the earlier one", other.tick(), 3);
+        other = new AckBook();
+        other.send(0, 100, true, true);
+        Check.quiet(other, 1);
+        other.send(1, 100, true, true);
+        other.send(2, 100, false, false);
+        other.send(2, 100, false, false);
+        Check.quiet(other, 298);
+        Check.same("space 0 is the earlier one", other.tick(), 2);
+        Check.quiet(other, 1);
+        Check.acknowledged(other, 2, 0, 0, 0);
+        Check.same("both are past, space 0 is the earlier one", other.tick(), 2);
         AckBook third = new AckBook();
         third.confirm();
         third.send(2, 100, true, true);
