@@ -5,25 +5,26 @@ import java.lang.reflect.Modifier;
 import java.util.Arrays;
 import java.util.Set;
 import java.util.TreeSet;
+import java.util.stream.Collectors;
 
 /** The public face, and nothing that can be seen beside it. */
 public final class FaceTest {
     private static final String[] FACE = {
-        "int send(int, int, boolean, boolean)",
-        "int span(long, long)",
-        "int acknowledge(int, int)",
+        "int send(int, int, boolean, boolean) throws IllegalArgumentException, IllegalStateException",
+        "int span(long, long) throws IllegalArgumentException, IllegalStateException",
+        "int acknowledge(int, int) throws IllegalArgumentException, IllegalStateException",
         "int tick()",
-        "void discard(int)",
+        "void discard(int) throws IllegalArgumentException, IllegalStateException",
         "void confirm()",
         "void anxious(boolean)",
-        "int next(int, boolean)",
-        "int state(int, int)",
-        "boolean came(int, long, boolean)",
-        "boolean due(int)",
-        "int written(int)",
-        "long range(int, int, boolean)",
-        "int look(int)",
-        "long space(int, int)",
+        "int next(int, boolean) throws IllegalArgumentException",
+        "int state(int, int) throws IllegalArgumentException",
+        "boolean came(int, long, boolean) throws IllegalArgumentException, IllegalStateException",
+        "boolean due(int) throws IllegalArgumentException",
+        "int written(int) throws IllegalArgumentException, IllegalStateException",
+        "long range(int, int, boolean) throws IllegalArgumentException, NoSuchElementException",
+        "int look(int) throws NoSuchElementException",
+        "long space(int, int) throws IllegalArgumentException, NoSuchElementException",
     };
 
     public static void main(String[] args) {
@@ -51,8 +52,12 @@ public final class FaceTest {
     }
 
     private static String told(Method method) {
-        String types = Arrays.toString(method.getParameterTypes());
-        return method.getReturnType() + " " + method.getName() + "(" + types.substring(1, types.length() - 1) + ")";
+        return method.getReturnType() + " " + method.getName() + "(" + names(method.getParameterTypes()) + ")"
+                + (method.getExceptionTypes().length == 0 ? "" : " throws " + names(method.getExceptionTypes()));
+    }
+
+    private static String names(Class<?>[] types) {
+        return Arrays.stream(types).map(Class::getSimpleName).collect(Collectors.joining(", "));
     }
 
     private static void privateNames(Class<?> book, Set<String> names) {
