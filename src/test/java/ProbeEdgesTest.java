@@ -340,5 +340,14 @@ public final class ProbeEdgesTest {
         Check.same("nothing new", book.look(9), 1);
         book.discard(2);
         Check.same("discarded", book.look(9), 0);
+        AckBook losses = new AckBook();
+        losses.send(1, 1, true, true);
+        Check.quiet(losses, 200);
+        withLossTime(losses, 0);
+        Check.ticks(losses, 100);
+        Check.same("BACKOFF", losses.look(9), 1);
+        Check.quiet(losses, 11);
+        Check.same("losses at 312", losses.tick(), 1);
+        Check.same("losses leave BACKOFF as it is", losses.look(9), 1);
     }
 }
